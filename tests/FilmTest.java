@@ -64,6 +64,13 @@ public final class FilmTest {
         Due.is("the frame with most", x.ofFilm(4), 4);
         Due.is("cells", x.ofFilm(2), 16);
         Due.is("runs", x.ofFilm(1), 6);
+        x.cut();
+        x.shoot(1);
+        x.put(1, 6, 6, 6);
+        x.shoot(1);
+        x.take(1, 6, 6, 6);
+        x.shoot(1);
+        Due.is("the first of several with most", x.ofFilm(4), 1);
     }
 
     private static void labelsFollow() {

@@ -185,6 +185,15 @@ public final class MadeTest {
         Due.drawn(x, "##/##");
         x.thin(0);
         Due.is("a square", Due.shown(x, 1), "/##");
+        Due.dropTo(x, 0);
+        Due.drawn(x, "..######/..######/..######/..######/..######/..######/..######/..######/..######");
+        x.thin(0);
+        Due.is("from all four sides", Due.shown(x, 1), "/...####/...####/...####/...####/...####/...####/...####");
+        x.skeleton(0);
+        Due.is("to the end", Due.shown(x, 2), "///.....#/.....#/.....#");
+        Due.dropTo(x, 0);
+        Due.drawn(x, "##/##");
+        x.thin(0);
         Due.drawn(x, "#####/#####/##.##/#####/#####");
         x.skeleton(2);
         Due.is("the hole stays", x.ofPicture(3, 6), 1);
