@@ -852,7 +852,8 @@ public final class Runpicture {
         /**
          * The four cells round a corner, each a binary digit: 0 right below, 1 left below, 2 left
          * above, 3 right above. In this order digit d is the cell to the right hand of a step in
-         * the direction d (0 E, 1 S, 2 W, 3 N), and the digit ahead of it that to the left hand.
+         * the direction d (0 E, 1 S, 2 W, 3 N), and the digit ahead of it that to the left hand;
+         * two cells that touch with a corner alone are 5 or 10.
          */
         static int cellsRound(int[] rows, int line, int column) {
             int above = (line > 0 && line <= LINES ? rows[line - 1] : 0) << 1 >> column;
@@ -1098,19 +1099,20 @@ public final class Runpicture {
 
     /** The parts and holes of the picture looked at last, for one kind of neighbours. */
     private static final class Regions {
-        /** A ring of cells beyond the picture joins all that is outside. */
-        private static final int WIDTH = COLUMNS + 2;
-        private static final int SIZE = WIDTH * (LINES + 2);
+        /** A ring of cells beyond the picture joins all that is outside: 14 lines of 18 cells. */
+        private static final int WIDTH = 18;
+        private static final int SIZE = 252;
         private static final int NEW_BLACK = -2;
         private static final int NEW_WHITE = -3;
         /** Of each two cells side by side, just one part has black ones and one hole white ones. */
         private static final int MOST = 96;
         /** A part round a hole with a part is four lines higher than that: none is deeper than 2. */
         private static final int DEEPEST = 12;
-        /** From a cell of the ring some of these lead to the ring's other side: outside, too. */
-        private static final int[] AROUND = {
-            1, 1 - WIDTH, -WIDTH, -1 - WIDTH, -1, WIDTH - 1, WIDTH, WIDTH + 1
-        };
+        /**
+         * How far it is to the cells round one; each second one is a neighbour by four. From a
+         * cell of the ring some of these lead to the ring's other side, which is outside, too.
+         */
+        private static final int[] AROUND = {1, -17, -18, -19, -1, 17, 18, 19};
 
         private final boolean isEight;
         private boolean hasLooked;
