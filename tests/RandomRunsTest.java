@@ -1,18 +1,23 @@
-import java.lang.reflect.InvocationTargetException;
 import java.lang.reflect.Method;
+import java.lang.reflect.Modifier;
 import java.util.ArrayList;
 import java.util.Arrays;
 import java.util.Comparator;
 import java.util.List;
 
-/** Long runs of all kinds of calls, each answered by the class and by Plain, all promises. */
+/**
+ * Runs of 512 calls of all kinds, all promises, each answered by three: the class, Plain, and an
+ * object of the class that gets just those calls that are not refused, which must not be told apart.
+ */
 public final class RandomRunsTest {
+    private static final int RUNS = 20;
+    private static final String[] FAR = {"-1", "16", "12", "2147483647", "-2147483648", "512", "65536"};
     private static long seed = 20261119;
 
-    public static void main(String[] args) throws IllegalAccessException {
-        int runs = args.length > 0 ? Integer.parseInt(args[0]) : 12;
+    public static void main(String[] args) {
+        int runs = args.length > 0 ? Integer.parseInt(args[0]) : RUNS;
         List<Method> face = new ArrayList<>(Arrays.asList(Plain.class.getDeclaredMethods()));
-        face.removeIf(method -> !java.lang.reflect.Modifier.isPublic(method.getModifiers()));
+        face.removeIf(method -> !Modifier.isPublic(method.getModifiers()));
         face.sort(Comparator.comparing(Method::getName));
         Due.is("methods of the face", face.size(), 52);
         for (int run = 0; run < runs; run++) {
@@ -27,60 +32,49 @@ public final class RandomRunsTest {
         return (int) ((seed >>> 33) % bound);
     }
 
-    private static void oneRun(int run, List<Method> face) throws IllegalAccessException {
-        Runpicture x = new Runpicture();
-        Plain plain = new Plain();
-        for (int n = 0; n < 500; n++) {
-            Method method = face.get(next(face.size()));
-            if (n % 3 == 0 || n < 4) {
-                prepare(x, plain);
+    private static void oneRun(int run, List<Method> face) {
+        Asked plain = Asked.plain();
+        Asked made = Asked.made();
+        Asked twin = Asked.made();
+        List<String> planned = new ArrayList<>();
+        for (int n = 0; n < Asked.MOST_CALLS; n++) {
+            if (planned.isEmpty() && next(n < 20 ? 2 : 8) == 0) {
+                prepare(plain, planned);
             }
-            Object[] values = argumentsOf(method, x);
-            String call = "run " + run + " call " + n + " " + method.getName() + Arrays.toString(values);
-            Object want = answer(plain, method, values);
-            Due.is(call, answer(x, same(method), values), want);
-        }
-        Due.is("run " + run + " digest", x.digest(), plain.digest());
-    }
-
-    private static Method same(Method method) {
-        try {
-            return Runpicture.class.getMethod(method.getName(), method.getParameterTypes());
-        } catch (NoSuchMethodException e) {
-            throw new IllegalStateException(method.getName());
-        }
-    }
-
-    private static Object answer(Object of, Method method, Object[] values) throws IllegalAccessException {
-        try {
-            return method.invoke(of, values);
-        } catch (InvocationTargetException e) {
-            return e.getCause().getClass().getName();
+            if (n == Asked.MOST_CALLS - 1) {
+                planned.add(0, "digest");
+            }
+            String call = planned.isEmpty() ? anyCall(face.get(next(face.size())), plain) : planned.remove(0);
+            String where = "run " + run + " call " + n + ": " + call;
+            Object want = plain.call(call);
+            Due.is(where, made.call(call), want);
+            if (!want.toString().startsWith("throws")) {
+                Due.is(where + ", without the refused calls", twin.call(call), want);
+            }
         }
     }
 
     /** Makes room now and then, and pictures of many kinds: few cells, many, runs, checks. */
-    private static void prepare(Runpicture x, Plain plain) {
-        if (x.house(0) == 8) {
+    private static void prepare(Asked plain, List<String> planned) {
+        int pictures = (Integer) plain.call("house 0");
+        if (pictures == 8) {
             for (int drops = next(4); drops > 0; drops--) {
-                x.drop();
-                plain.drop();
+                planned.add("drop");
+                pictures--;
             }
         }
-        if (x.house(0) == 0) {
-            x.blank();
-            plain.blank();
+        if (pictures == 0) {
+            planned.add("blank");
+            pictures++;
         }
-        int pic = next(x.house(0));
+        int pic = next(pictures);
         int kind = next(6);
         for (int line = 0; line < 12; line++) {
-            int bits = lineOf(kind, line, x, pic);
-            x.draw(pic, line, bits);
-            plain.draw(pic, line, bits);
+            planned.add("draw " + pic + " " + line + " " + lineOf(kind, line));
         }
     }
 
-    private static int lineOf(int kind, int line, Runpicture x, int pic) {
+    private static int lineOf(int kind, int line) {
         int any = next(65536);
         switch (kind) {
             case 0:
@@ -98,32 +92,35 @@ public final class RandomRunsTest {
         }
     }
 
-    private static Object[] argumentsOf(Method method, Runpicture x) {
+    private static String anyCall(Method method, Asked plain) {
+        String name = method.getName();
         Class<?>[] kinds = method.getParameterTypes();
-        Object[] values = new Object[kinds.length];
+        List<String> words = new ArrayList<>(List.of(name));
         for (int n = 0; n < kinds.length; n++) {
-            values[n] = kinds[n] == boolean.class ? (Object) (next(2) == 1) : (Object) number(n, method, x);
+            words.add(kinds[n] == boolean.class ? (next(2) == 1 ? "true" : "false") : number(n, name, plain));
         }
-        if (method.getName().equals("sum") && next(4) > 0) {
+        if (name.equals("sum") && next(4) > 0) {
             int top = next(12);
             int left = next(16);
-            return new Object[] {values[0], top, left, top + next(12 - top), left + next(16 - left)};
+            int bottom = top + next(12 - top);
+            return "sum " + words.get(1) + " " + top + " " + left + " " + bottom + " " + (left + next(16 - left));
         }
-        return values;
+        return String.join(" ", words);
     }
 
-    private static int number(int n, Method method, Runpicture x) {
-        int wild = next(25);
-        if (wild == 0) {
-            return new int[] {-1, 16, 12, Integer.MAX_VALUE, Integer.MIN_VALUE, 512, 65536}[next(7)];
-        }
-        String name = method.getName();
+    private static String number(int n, String name, Asked plain) {
+        return next(25) == 0 ? FAR[next(FAR.length)] : Integer.toString(nearNumber(n, name, plain));
+    }
+
+    private static int nearNumber(int n, String name, Asked plain) {
         boolean isFrame = name.equals("frame") || name.startsWith("label");
+        int pictures = (Integer) plain.call("house 0");
         if (n == 0 && !name.equals("house") && !name.equals("ofFilm")) {
-            return next((isFrame ? x.ofFilm(0) : x.house(0)) + (next(10) == 0 ? 2 : 1) + 1) - (next(20) == 0 ? 1 : 0);
+            int count = isFrame ? (Integer) plain.call("ofFilm 0") : pictures;
+            return next(Math.max(1, count) + (next(6) == 0 ? 1 : 0)) - (next(20) == 0 ? 1 : 0);
         }
         if (n == 1 && (name.equals("join") || name.equals("compare") || name.startsWith("place"))) {
-            return next(Math.max(1, x.house(0)));
+            return next(Math.max(1, pictures));
         }
         if (name.equals("grow") || name.equals("shrink") || name.equals("open") || name.equals("close")) {
             return next(512);

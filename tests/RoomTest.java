@@ -2,29 +2,34 @@ import java.lang.management.ManagementFactory;
 
 /**
  * All calls of a run live in one room, so a call must make nothing but its text: looks how many
- * bytes 512 calls of the dearest kinds take.
+ * bytes calls of the dearest kinds take.
  */
 public final class RoomTest {
     private static final com.sun.management.ThreadMXBean BEAN =
             (com.sun.management.ThreadMXBean) ManagementFactory.getThreadMXBean();
 
+    /** Behind the calls that make the house full, no more than 512 in all. */
+    private static final int TIMES = 120;
+
     public static void main(String[] args) {
-        Runpicture x = fullHouse();
-        // The first calls grow the tapes and load what the machine needs.
-        for (int n = 0; n < 3; n++) {
-            callAll(x);
-        }
-        looks("an object", 512, 60_000, () -> new Runpicture());
-        looks("digest", 512, 40, () -> x.digest());
-        looks("isSound", 512, 40, () -> x.isSound());
-        looks("leastPacked", 512, 40, () -> x.leastPacked(1));
-        looks("ofFilm", 512, 40, () -> x.ofFilm(3));
-        looks("shoot", 512, 40, () -> x.cut() + x.shoot(1) + x.shoot(2));
-        looks("skeleton", 512, 40, () -> x.drop() + x.skeleton(3));
-        looks("packed", 512, 2_000, () -> x.packed(1, 2));
-        looks("outline", 512, 2_000, () -> x.outline(1, true, 0));
-        looks("tree", 512, 2_000, () -> x.tree(2, false));
+        // The first calls load what the machine needs.
+        callAll(fullHouse());
+        looks("an object", 60_000, x -> new Runpicture());
+        looks("digest", 40, x -> x.digest());
+        looks("isSound", 40, x -> x.isSound());
+        looks("leastPacked", 40, x -> x.leastPacked(1));
+        looks("ofFilm", 40, x -> x.ofFilm(3));
+        looks("shoot", 40, x -> x.cut() + x.shoot(1) + x.shoot(2));
+        looks("skeleton", 40, x -> x.drop() + x.skeleton(3));
+        looks("packed", 2_000, x -> x.packed(1, 2));
+        looks("outline", 2_000, x -> x.outline(1, true, 0));
+        looks("tree", 2_000, x -> x.tree(2, false));
         Due.end();
+    }
+
+    /** A call whose room is looked at. */
+    private interface Call {
+        Object of(Runpicture x);
     }
 
     private static Runpicture fullHouse() {
@@ -53,13 +58,15 @@ public final class RoomTest {
         x.labels(7);
     }
 
-    private static void looks(String call, int times, int bytesEach, Due.Call called) {
-        called.answer();
+    private static void looks(String call, int bytesEach, Call called) {
+        Runpicture x = fullHouse();
+        // The first of these calls lets the texts that are used again grow to their length.
+        called.of(x);
         long before = BEAN.getCurrentThreadAllocatedBytes();
-        for (int n = 0; n < times; n++) {
-            called.answer();
+        for (int n = 0; n < TIMES; n++) {
+            called.of(x);
         }
-        long bytes = (BEAN.getCurrentThreadAllocatedBytes() - before) / times;
+        long bytes = (BEAN.getCurrentThreadAllocatedBytes() - before) / TIMES;
         Due.is(call + " takes " + bytes + " bytes, within " + bytesEach, bytes <= bytesEach, true);
     }
 }
