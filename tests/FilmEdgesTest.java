@@ -17,6 +17,7 @@ public final class FilmEdgesTest {
         mostCellsThenSmallestNumbers();
         noLabelTwice();
         asManyLabelsAsThereCanBe();
+        partsOfBothFramesByEight();
         cellsOfAFrame();
         framesThatThereAreNot();
         Due.end();
@@ -261,6 +262,21 @@ public final class FilmEdgesTest {
             Due.is("all stay", x.ofFilm(3), 48);
         }
         Due.is("the last in the last", x.label(7, 10, 14), 48);
+    }
+
+    /** Numbers by four would not be the same, neither in the frame ahead nor in this one. */
+    private static void partsOfBothFramesByEight() {
+        Runpicture x = of("#....#/.#/..#..#");
+        Due.is("by four", x.ofPicture(0, 3), 5);
+        x.shoot(0);
+        Due.is("by eight", x.labels(0), "1 2 3");
+        Due.drawn(x, ".....#/.#/..#..#");
+        x.shoot(1);
+        Due.is("the first one has lost its first cell", x.labels(1), "2 1 3");
+        x.shoot(0);
+        Due.is("and has it again", x.labels(2), "1 2 3");
+        Due.is("its last cell", x.label(2, 2, 2), 1);
+        Due.is("the greatest", x.ofFilm(3), 3);
     }
 
     private static void cellsOfAFrame() {

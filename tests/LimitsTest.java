@@ -4,6 +4,7 @@ import java.util.HashSet;
 import java.util.List;
 import java.util.Map;
 import java.util.Set;
+import java.util.TreeSet;
 
 /**
  * Each "Throws" of each promise: the last value that is taken and the first one that is refused, on
@@ -28,6 +29,11 @@ public final class LimitsTest {
     private static final Map<String, Integer> REFUSED = new HashMap<>();
 
     public static void main(String[] args) {
+        Set<String> named = new TreeSet<>();
+        for (String row : Limits.rows()) {
+            named.add(row.split(" ")[0]);
+        }
+        Due.is("methods with limits", named, Asked.face());
         for (String script : STATES) {
             Limits limits = new Limits(script);
             List<String> questions = Questions.after(script);
@@ -43,7 +49,7 @@ public final class LimitsTest {
         Due.end();
     }
 
-    /** All values to try of one word of the row behind those of the words ahead. */
+    /** All values to try of one word of the row behind those ahead; one far away is wrong alone. */
     private static void tryAll(
             String script, Limits limits, List<String> questions, String row, List<String> values) {
         List<String> words = Limits.valuesOf(row);
@@ -51,13 +57,11 @@ public final class LimitsTest {
             tryOne(script, limits, questions, row, values);
             return;
         }
-        boolean isOneFarAway = isFarAway(values);
         for (String value : limits.valuesToTry(words.get(values.size()), values)) {
-            if (isOneFarAway && isFarAway(List.of(value))) {
-                continue;
-            }
             values.add(value);
-            tryAll(script, limits, questions, row, values);
+            if (!isFarAway(values) || limits.wrongOnes(row, values).size() <= 1) {
+                tryAll(script, limits, questions, row, values);
+            }
             values.remove(values.size() - 1);
         }
     }
@@ -73,13 +77,13 @@ public final class LimitsTest {
             return;
         }
         REFUSED.merge(row, 1, Integer::sum);
-        int wrong = limits.wrongOnes(row, values);
-        boolean isNear = wrong <= 2 && !isFarAway(values);
-        Object before = isNear ? made.call("digest") : "";
+        List<String> wrong = limits.wrongOnes(row, values);
+        boolean isNew = wrong.size() <= 2 && ASKED.add(script + row + wrong);
+        Object before = isNew ? made.call("digest") : "";
         Due.is(call + " behind " + script, made.call(call), due);
-        Object behind = isNear ? made.call("digest") : "";
+        Object behind = isNew ? made.call("digest") : "";
         Due.is(call + " changes nothing behind " + script, behind, before);
-        if (wrong <= 1 && ASKED.add(script + row + limits.firstWrong(row, values))) {
+        if (isNew && wrong.size() <= 1) {
             changesNothing(script, questions, call);
         }
     }
@@ -108,7 +112,7 @@ public final class LimitsTest {
         List<Object> before = portion.stream().map(made::call).toList();
         made.call(call);
         for (int n = 0; n < portion.size(); n++) {
-            String what = portion.get(n) + " behind the refused " + call + " behind " + script;
+            String what = portion.get(n) + " behind the refused " + call;
             Due.is(what, made.call(portion.get(n)), before.get(n));
         }
     }

@@ -182,6 +182,9 @@ public final class NearEdgesTest {
         Runpicture z = of("//..#/..##/...#");
         z.thin(0);
         Due.is("a step", Due.shown(z, 1), "///..#/...#");
+        Runpicture open = of("///...#/...###/...#");
+        open.thin(0);
+        Due.is("right above is not next to below", Due.shown(open, 1), "////...###");
         Runpicture both = of("//.#.#/..#/.#.#");
         both.thin(0);
         Due.is("a crossing stays", Due.shown(both, 1), "//.#.#/..#/.#.#");
@@ -264,6 +267,9 @@ public final class NearEdgesTest {
         Due.drawn(x, "##########/".repeat(5));
         Due.is("fifty cells with fifty faults", x.places(0, 1, 50), 8 * 7);
         Due.is("not with one less", x.places(0, 1, 49), 0);
+        Due.is("the first with fifty", x.placeAt(0, 1, 50, 0), 0);
+        Due.is("the last with fifty", x.placeAt(0, 1, 50, 55), 7 * 16 + 6);
+        Due.is("none with one less", x.placeAt(0, 1, 49, 0), -1);
         x.put(1, 0, 10, 10);
         Due.is("a white cell more in each other line", x.places(0, 1, 50), 0);
         Due.is("fits itself", x.places(1, 1, 0), 1);

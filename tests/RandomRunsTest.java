@@ -10,7 +10,7 @@ import java.util.List;
  * object of the class that gets just those calls that are not refused, which must not be told apart.
  */
 public final class RandomRunsTest {
-    private static final int RUNS = 20;
+    private static final int RUNS = 12;
     private static final String[] FAR = {"-1", "16", "12", "2147483647", "-2147483648", "512", "65536"};
     private static long seed = 20261119;
 

@@ -283,6 +283,8 @@ public final class RegionEdgesTest {
     }
 
     private static void theFirstOfTheLargest() {
+        Due.is("a single cell", of("#").largest(0, true), 0);
+        Due.is("single cells", of("#.#.#").largest(0, false), 0);
         Runpicture x = of("##.##.##");
         Due.is("all alike", x.largest(0, false), 0);
         x.put(0, 1, 7, 7);

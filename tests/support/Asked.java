@@ -1,5 +1,6 @@
 import java.lang.reflect.InvocationTargetException;
 import java.lang.reflect.Method;
+import java.util.Set;
 import java.util.TreeMap;
 
 /**
@@ -39,9 +40,9 @@ public final class Asked {
         return face;
     }
 
-    /** How many calls there were. */
-    public int calls() {
-        return calls;
+    /** The names of all methods. */
+    public static Set<String> face() {
+        return FACE.keySet();
     }
 
     /** The answer of a call, or "throws" and the exception's name. */
@@ -50,7 +51,7 @@ public final class Asked {
         if (calls > MOST_CALLS && of instanceof Runpicture) {
             throw new IllegalStateException("a test calls an object too often: " + text);
         }
-        String[] words = text.trim().split(" +");
+        String[] words = text.trim().split(" ");
         Object[] values = new Object[words.length - 1];
         for (int n = 0; n < values.length; n++) {
             String word = words[n + 1];

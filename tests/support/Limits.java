@@ -116,25 +116,16 @@ public final class Limits {
         return all.stream().map(String::valueOf).toList();
     }
 
-    /** How many of these values are not taken. */
-    public int wrongOnes(String row, List<String> values) {
-        int wrong = 0;
+    /** Those of these values that are not taken, each with its place. */
+    public List<String> wrongOnes(String row, List<String> values) {
+        List<String> wrong = new ArrayList<>();
         List<String> words = valuesOf(row);
-        for (int n = 0; n < words.size(); n++) {
-            wrong += isTaken(words.get(n), values.subList(0, n), values.get(n)) ? 0 : 1;
-        }
-        return wrong;
-    }
-
-    /** The first of these values that is not taken, with its place; "" if all are. */
-    public String firstWrong(String row, List<String> values) {
-        List<String> words = valuesOf(row);
-        for (int n = 0; n < words.size(); n++) {
+        for (int n = 0; n < values.size(); n++) {
             if (!isTaken(words.get(n), values.subList(0, n), values.get(n))) {
-                return n + ":" + values.get(n);
+                wrong.add(n + ":" + values.get(n));
             }
         }
-        return "";
+        return wrong;
     }
 
     private boolean isTaken(String word, List<String> ahead, String value) {
