@@ -137,7 +137,10 @@ public final class OutlineEdgesTest {
         isFilledAlike(rising);
     }
 
-    /** The corner at which an outline begins may be passed before the outline is back. */
+    /**
+     * The corner at which an outline begins may be passed before the outline is back; promise 52
+     * tells it, as there are as many outlines as parts and holes (SoundTest).
+     */
     private static void backAtTheFirstStep() {
         Runpicture x = of(PENINSULA);
         Due.is("by eight", x.outlines(0, true), 2);

@@ -1,12 +1,17 @@
 import java.lang.management.ManagementFactory;
 
 /**
- * All calls of a run live in one room, so a call must make nothing but its text: looks how many
- * bytes calls of the dearest kinds take.
+ * All calls of a run live in one room of 600,000 objects and 7.3 million elements: looks whether an
+ * object and 512 calls of each of the dearest kinds, in a full house, fit into it.
  */
 public final class RoomTest {
     private static final com.sun.management.ThreadMXBean BEAN =
             (com.sun.management.ThreadMXBean) ManagementFactory.getThreadMXBean();
+
+    /** No element takes less than a byte and no object less than 16: the room holds 512 such calls. */
+    private static final int BYTES_OF_ONE = 14_000;
+    /** What is left of the room then. */
+    private static final int BYTES_OF_OBJECT = 130_000;
 
     /** Behind the calls that make the house full, no more than 512 in all. */
     private static final int TIMES = 120;
@@ -14,16 +19,16 @@ public final class RoomTest {
     public static void main(String[] args) {
         // The first calls load what the machine needs.
         callAll(fullHouse());
-        looks("an object", 60_000, x -> new Runpicture());
-        looks("digest", 40, x -> x.digest());
-        looks("isSound", 40, x -> x.isSound());
-        looks("leastPacked", 40, x -> x.leastPacked(1));
-        looks("ofFilm", 40, x -> x.ofFilm(3));
-        looks("shoot", 40, x -> x.cut() + x.shoot(1) + x.shoot(2));
-        looks("skeleton", 40, x -> x.drop() + x.skeleton(3));
-        looks("packed", 2_000, x -> x.packed(1, 2));
-        looks("outline", 2_000, x -> x.outline(1, true, 0));
-        looks("tree", 2_000, x -> x.tree(2, false));
+        looks("an object", BYTES_OF_OBJECT, x -> new Runpicture());
+        looks("digest", BYTES_OF_ONE, x -> x.digest());
+        looks("isSound", BYTES_OF_ONE, x -> x.isSound());
+        looks("leastPacked", BYTES_OF_ONE, x -> x.leastPacked(1));
+        looks("ofFilm", BYTES_OF_ONE, x -> x.ofFilm(3));
+        looks("shoot", BYTES_OF_ONE, x -> x.cut() + x.shoot(1) + x.shoot(2));
+        looks("skeleton", BYTES_OF_ONE, x -> x.drop() + x.skeleton(3));
+        looks("packed", BYTES_OF_ONE, x -> x.packed(1, 2));
+        looks("outline", BYTES_OF_ONE, x -> x.outline(1, true, 0));
+        looks("tree", BYTES_OF_ONE, x -> x.tree(2, false));
         Due.end();
     }
 

@@ -1328,6 +1328,10 @@ public final class Runpicture {
             }
         }
 
+        /**
+         * A hole's outline can pass the corner at which it begins before it is back: it ends where
+         * the next step would be its first one, as only so there are as many as parts and holes.
+         */
         private void follow(int[] rows, boolean isEight, int startLine, int startColumn) {
             if (outlineCount >= MOST_OUTLINES) {
                 return;
